@@ -288,7 +288,7 @@ public final class RopeDrums {
         return spool >= 0 && spool < spools.size;
     }
 
-    /** What the meters hold: a whole number or, of floats and doubles, a real one; a float is kept as the same double. */
+    /** What the meters hold: whole numbers or, of floats and doubles, real ones; a float is kept as the same double. */
     private static final class Meters {
         final int[] lanes = new int[METERS];
         final long[] wholes = new long[METERS];
@@ -455,7 +455,7 @@ public final class RopeDrums {
     }
 
     private static final class Wholes {
-        /** Of ints the lowest 32 bits of this are the outcome: no act but division looks at more, and there it fits. */
+        /** For ints, too: no outcome of two ints leaves the longs, so that its lowest 32 bits are the ints' own. */
         static long outcome(int act, long x, long y) {
             switch (act) {
                 case ADD: return x + y;

@@ -261,6 +261,7 @@ public final class PromisesTest {
         part = "promise 6, floats and doubles";
         outcome(0, FLOATS, bits(0.1f), bits(0.2f), bits(0.1f + 0.2f));
         outcome(1, FLOATS, bits(16777216.0f), bits(0.25f), bits(16777216.0f));
+        outcome(1, FLOATS, bits(0.5f), bits(2.0f), bits(-1.5f));
         outcome(2, FLOATS, bits(1e30f), bits(1e30f), bits(Float.POSITIVE_INFINITY));
         outcome(2, FLOATS, bits(1e-30f), bits(-1e-30f), bits(-0.0f));
         outcome(3, FLOATS, bits(1.0f), bits(3.0f), bits(1.0f / 3.0f));
@@ -270,6 +271,10 @@ public final class PromisesTest {
         outcome(0, DOUBLES, bits(-0.0), bits(-0.0), bits(-0.0));
         outcome(2, DOUBLES, bits(1e308), bits(-10.0), bits(-ENDLESS));
         outcome(2, DOUBLES, bits(3e-320), bits(0.5), bits(3e-320 * 0.5));
+        outcome(2, DOUBLES, bits(-ENDLESS), bits(2.0), bits(-ENDLESS));
+        outcome(2, DOUBLES, bits(-2.0), bits(ENDLESS), bits(-ENDLESS));
+        outcome(2, DOUBLES, bits(0.0), bits(-2.0), bits(-0.0));
+        outcome(2, DOUBLES, bits(-2.0), bits(0.0), bits(-0.0));
         outcome(3, DOUBLES, bits(1.0), bits(-0.0), bits(-ENDLESS));
         outcome(3, DOUBLES, bits(5.0), bits(-ENDLESS), bits(-0.0));
         RopeDrums x = new RopeDrums();
@@ -882,6 +887,28 @@ public final class PromisesTest {
         due("failed() after copy", x.failed(), 1);
         x.reckon(0, 1, 1, 1);
         due("failed() after reckon", x.failed(), 0);
+        passesAfterFailures();
+    }
+
+    private static void passesAfterFailures() {
+        RopeDrums x = new RopeDrums();
+        x.spool(1, true);
+        x.rack(0, true, 1);
+        x.at(0, 1);
+        x.put(0, 0, 0);
+        due("failed() after put", x.failed(), 0);
+        x.at(0, 1);
+        x.weight(0, 0, true);
+        due("failed() after weight", x.failed(), 0);
+        x.brake(0, 0, bits(1.0));
+        x.at(0, 1);
+        x.slow(0, 0);
+        due("failed() after slow", x.failed(), 0);
+        x.log(4, 1);
+        x.log(0, 1);
+        x.at(0, 1);
+        x.copy(4, 0, false);
+        due("failed() after copy", x.failed(), 0);
     }
 
     private static void count() {
