@@ -1011,6 +1011,8 @@ public final class PromiseEdgesTest {
         RopeDrums x = Due.filled();
         x.copy(5, 2, false);
         Due.is("the other one is still missing", x.read(2, 0, 0), Due.MISSING);
+        Due.is("of one place to missing", logged(4, 1.0).copy(4, 2, false), Due.MISSING);
+        Due.is("of one place back to missing", logged(3, 1.0).copy(6, 3, true), Due.MISSING);
     }
 
     private static void wholeTurned() {

@@ -192,6 +192,9 @@ public final class TermsEdgesTest {
     private static void beyondAllFloats() {
         long endless = 0x7f800000L;
         turned(3, Due.bits(GREATEST_FLOAT), 2, 0x7f7fffffL);
+        // Nearer to the greatest float than to what would be the next: rounded, it is not beyond all floats.
+        turned(3, Due.bits(Math.nextDown(HALF_A_STEP_ABOVE)), 2, 0x7f7fffffL);
+        turned(3, Due.bits(-Math.nextDown(HALF_A_STEP_ABOVE)), 2, (int) 0xff7fffffL);
         turned(3, Due.bits(HALF_A_STEP_ABOVE), 2, endless);
         turned(3, Due.bits(-HALF_A_STEP_ABOVE), 2, (int) 0xff800000L);
         turned(3, Due.bits(1e39), 2, endless);
