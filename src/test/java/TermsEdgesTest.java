@@ -87,6 +87,11 @@ public final class TermsEdgesTest {
         // Given with no sign above the lowest 32 bits they are told with it, as an int.
         taken(Due.FLOATS, 0xbf800000L, -1082130432L);
         taken(Due.FLOATS, 0x80000000L, Due.LEAST);
+        for (long power = 0; power < 255; power++) {
+            for (long digits : new long[] {0, 1, 0x400000, 0x7fffff}) {
+                taken(Due.FLOATS, (power << 23) + digits, (power << 23) + digits);
+            }
+        }
     }
 
     private static void bitsOfDoubles() {
@@ -95,6 +100,11 @@ public final class TermsEdgesTest {
         for (long bits : kept) {
             taken(Due.DOUBLES, bits, bits);
             taken(Due.DOUBLES, bits | Long.MIN_VALUE, bits | Long.MIN_VALUE);
+        }
+        for (long power = 0; power < 2047; power++) {
+            for (long digits : new long[] {0, 1, 0x8000000000000L, 0xfffffffffffffL}) {
+                taken(Due.DOUBLES, (power << 52) + digits, (power << 52) + digits);
+            }
         }
     }
 
